@@ -80,15 +80,15 @@ public final class ProofBench {
     private int tapeSize;
     private Theory theory = new Theory();
     private Theory spareTheory = new Theory();
-    private Proof proof = new Proof();
-    private Proof spareProof = new Proof();
+    private Proof proof = new Proof(theory);
+    private Proof spareProof = new Proof(theory);
     private final Shelf shelf = new Shelf();
     private final Shelf[] boxes = new Shelf[BOXES];
-    private final Reader reader = new Reader();
+    private final Reader reader = new Reader(theory, tape);
     /** The formula that was read last; without pieces while there is none. */
     private final Row formula = new Row();
     private final Letters letters = new Letters();
-    private final Judge judge = new Judge();
+    private final Judge judge = new Judge(theory);
     private final Rewriter rewriter = new Rewriter();
 
     public ProofBench() {
@@ -118,7 +118,7 @@ public final class ProofBench {
     }
 
     public int theory() {
-        boolean sound = reader.takeTheory(tape, tapeSize, spareTheory);
+        boolean sound = reader.takeTheory(tapeSize, spareTheory);
         tapeSize = 0;
         if (!sound) {
             return NONE;
@@ -149,7 +149,7 @@ public final class ProofBench {
     }
 
     public int prove() {
-        boolean sound = reader.takeProof(tape, tapeSize, theory, spareProof);
+        boolean sound = reader.takeProof(tapeSize, theory, spareProof);
         tapeSize = 0;
         if (!sound) {
             return NONE;
@@ -247,7 +247,7 @@ public final class ProofBench {
     }
 
     public int read() {
-        boolean sound = reader.takeText(tape, tapeSize, theory, formula, false);
+        boolean sound = reader.takeText(tapeSize, theory, formula, false);
         tapeSize = 0;
         if (!sound) {
             formula.clear();
@@ -298,7 +298,7 @@ public final class ProofBench {
     }
 
     public int rewrite() {
-        boolean sound = reader.takeText(tape, tapeSize, theory, rewriter.term, true);
+        boolean sound = reader.takeText(tapeSize, theory, rewriter.term, true);
         tapeSize = 0;
         if (!sound) {
             rewriter.clear();
@@ -668,7 +668,7 @@ public final class ProofBench {
         static final int SEMICOLON = 5;
 
         private final long[] keyWords = new long[KEY_COUNT];
-        private byte[] text = new byte[0];
+        private final byte[] text;
         private int size;
         private int behind;
         int kind;
@@ -678,7 +678,8 @@ public final class ProofBench {
         int number;
         long word;
 
-        Tokens() {
+        Tokens(byte[] tape) {
+            text = tape;
             learn(FORMULA_WORDS, FALSE);
             learn(STEP_WORDS, ASSUME);
             learn(MORE_STEP_WORDS, GENERAL);
@@ -699,8 +700,7 @@ public final class ProofBench {
             }
         }
 
-        void begin(byte[] bytes, int count) {
-            text = bytes;
+        void begin(int count) {
             size = count;
             behind = 0;
             advance();
@@ -779,20 +779,25 @@ public final class ProofBench {
 
     /** Reads texts; keeps the first fault of the latest one. */
     private static final class Reader {
-        private final Tokens tokens = new Tokens();
+        private final Tokens tokens;
         private final long[] freeWords = new long[MOST_FREE];
         private int freeCount;
         private final long[] boundWords = new long[MOST_NESTED];
         private int boundCount;
-        private Theory theory = new Theory();
+        private Theory theory;
         private Row row = new Row();
         private boolean inAxiom;
         int faultKind = NO_FAULT;
         int faultPlace = NONE;
 
-        boolean takeTheory(byte[] text, int size, Theory into) {
+        Reader(Theory names, byte[] tape) {
+            theory = names;
+            tokens = new Tokens(tape);
+        }
+
+        boolean takeTheory(int size, Theory into) {
             into.clear();
-            begin(text, size, into);
+            begin(size, into);
             // One line more than a theory has room for: that one is refused.
             int most = MOST_RELS + MOST_FUNS + MOST_AXIOMS + 1;
             for (int i = 0; i < most && tokens.kind != Tokens.BEHIND_TEXT; i++) {
@@ -808,9 +813,9 @@ public final class ProofBench {
             return faultKind == NO_FAULT;
         }
 
-        boolean takeProof(byte[] text, int size, Theory names, Proof into) {
+        boolean takeProof(int size, Theory names, Proof into) {
             into.clear();
-            begin(text, size, names);
+            begin(size, names);
             for (int i = 0; i <= MOST_STEPS && tokens.kind != Tokens.BEHIND_TEXT; i++) {
                 if (i == MOST_STEPS) {
                     return refuse(CANNOT_STAND);
@@ -824,8 +829,8 @@ public final class ProofBench {
         }
 
         /** A text that is one formula, or one term. */
-        boolean takeText(byte[] text, int size, Theory names, Row into, boolean asTerm) {
-            begin(text, size, names);
+        boolean takeText(int size, Theory names, Row into, boolean asTerm) {
+            begin(size, names);
             if (!takeWhole(into, asTerm)) {
                 return false;
             }
@@ -835,14 +840,14 @@ public final class ProofBench {
             return faultKind == NO_FAULT;
         }
 
-        private void begin(byte[] text, int size, Theory names) {
+        private void begin(int size, Theory names) {
             theory = names;
             freeCount = 0;
             boundCount = 0;
             inAxiom = false;
             faultKind = NO_FAULT;
             faultPlace = NONE;
-            tokens.begin(text, size);
+            tokens.begin(size);
         }
 
         /** Some faults are found behind places at which another one may still be found, so the first is looked for. */
@@ -1197,12 +1202,13 @@ public final class ProofBench {
         private final Row noRow = new Row();
         private final Row madeOf = new Row();
         private final Shape shape = new Shape();
-        private Theory theory = new Theory();
+        private Theory theory;
         int written;
         int taken;
         int cause;
 
-        Proof() {
+        Proof(Theory names) {
+            theory = names;
             for (int i = 0; i < steps.length; i++) {
                 steps[i] = new Step();
             }
@@ -1852,9 +1858,10 @@ public final class ProofBench {
         private final long[] good = new long[MOST_THINGS * WORDS];
         private Row row = new Row();
         private Shape shape = new Shape();
-        private Theory theory = new Theory();
+        private Theory theory;
 
-        Judge() {
+        Judge(Theory names) {
+            theory = names;
             for (int i = 0; i < shapes.length; i++) {
                 shapes[i] = new Shape();
             }
