@@ -1853,7 +1853,7 @@ public final class ProofBench {
         private final int[] freeNumbers = new int[MOST_FREE];
         private int freeCount;
         private int things;
-        /** For each number of things: models of which it is known whether all axioms hold, and those in which they do. */
+        /** By number of things: models that were looked at, and those in which all axioms hold. */
         private final long[] known = new long[MOST_THINGS * WORDS];
         private final long[] good = new long[MOST_THINGS * WORDS];
         private Row row = new Row();
