@@ -80,15 +80,15 @@ public final class ProofBench {
     private int tapeSize;
     private Theory theory = new Theory();
     private Theory spareTheory = new Theory();
-    private Proof proof = new Proof(theory);
-    private Proof spareProof = new Proof(theory);
+    private Proof proof = new Proof();
+    private Proof spareProof = new Proof();
     private final Shelf shelf = new Shelf();
     private final Shelf[] boxes = new Shelf[BOXES];
-    private final Reader reader = new Reader(theory, tape);
+    private final Reader reader = new Reader();
     /** The formula that was read last; without pieces while there is none. */
     private final Row formula = new Row();
     private final Letters letters = new Letters();
-    private final Judge judge = new Judge(theory);
+    private final Judge judge = new Judge();
     private final Rewriter rewriter = new Rewriter();
 
     public ProofBench() {
@@ -118,7 +118,7 @@ public final class ProofBench {
     }
 
     public int theory() {
-        boolean sound = reader.takeTheory(tapeSize, spareTheory);
+        boolean sound = reader.takeTheory(tape, tapeSize, spareTheory);
         tapeSize = 0;
         if (!sound) {
             return NONE;
@@ -149,7 +149,7 @@ public final class ProofBench {
     }
 
     public int prove() {
-        boolean sound = reader.takeProof(tapeSize, theory, spareProof);
+        boolean sound = reader.takeProof(tape, tapeSize, theory, spareProof);
         tapeSize = 0;
         if (!sound) {
             return NONE;
@@ -247,7 +247,7 @@ public final class ProofBench {
     }
 
     public int read() {
-        boolean sound = reader.takeText(tapeSize, theory, formula, false);
+        boolean sound = reader.takeText(tape, tapeSize, theory, formula, false);
         tapeSize = 0;
         if (!sound) {
             formula.clear();
@@ -298,7 +298,7 @@ public final class ProofBench {
     }
 
     public int rewrite() {
-        boolean sound = reader.takeText(tapeSize, theory, rewriter.term, true);
+        boolean sound = reader.takeText(tape, tapeSize, theory, rewriter.term, true);
         tapeSize = 0;
         if (!sound) {
             rewriter.clear();
@@ -668,7 +668,7 @@ public final class ProofBench {
         static final int SEMICOLON = 5;
 
         private final long[] keyWords = new long[KEY_COUNT];
-        private final byte[] text;
+        private byte[] text = new byte[0];
         private int size;
         private int behind;
         int kind;
@@ -678,8 +678,7 @@ public final class ProofBench {
         int number;
         long word;
 
-        Tokens(byte[] tape) {
-            text = tape;
+        Tokens() {
             learn(FORMULA_WORDS, FALSE);
             learn(STEP_WORDS, ASSUME);
             learn(MORE_STEP_WORDS, GENERAL);
@@ -700,7 +699,8 @@ public final class ProofBench {
             }
         }
 
-        void begin(int count) {
+        void begin(byte[] bytes, int count) {
+            text = bytes;
             size = count;
             behind = 0;
             advance();
@@ -779,25 +779,20 @@ public final class ProofBench {
 
     /** Reads texts; keeps the first fault of the latest one. */
     private static final class Reader {
-        private final Tokens tokens;
+        private final Tokens tokens = new Tokens();
         private final long[] freeWords = new long[MOST_FREE];
         private int freeCount;
         private final long[] boundWords = new long[MOST_NESTED];
         private int boundCount;
-        private Theory theory;
+        private Theory theory = new Theory();
         private Row row = new Row();
         private boolean inAxiom;
         int faultKind = NO_FAULT;
         int faultPlace = NONE;
 
-        Reader(Theory names, byte[] tape) {
-            theory = names;
-            tokens = new Tokens(tape);
-        }
-
-        boolean takeTheory(int size, Theory into) {
+        boolean takeTheory(byte[] text, int size, Theory into) {
             into.clear();
-            begin(size, into);
+            begin(text, size, into);
             // One line more than a theory has room for: that one is refused.
             int most = MOST_RELS + MOST_FUNS + MOST_AXIOMS + 1;
             for (int i = 0; i < most && tokens.kind != Tokens.BEHIND_TEXT; i++) {
@@ -813,9 +808,9 @@ public final class ProofBench {
             return faultKind == NO_FAULT;
         }
 
-        boolean takeProof(int size, Theory names, Proof into) {
+        boolean takeProof(byte[] text, int size, Theory names, Proof into) {
             into.clear();
-            begin(size, names);
+            begin(text, size, names);
             for (int i = 0; i <= MOST_STEPS && tokens.kind != Tokens.BEHIND_TEXT; i++) {
                 if (i == MOST_STEPS) {
                     return refuse(CANNOT_STAND);
@@ -829,8 +824,8 @@ public final class ProofBench {
         }
 
         /** A text that is one formula, or one term. */
-        boolean takeText(int size, Theory names, Row into, boolean asTerm) {
-            begin(size, names);
+        boolean takeText(byte[] text, int size, Theory names, Row into, boolean asTerm) {
+            begin(text, size, names);
             if (!takeWhole(into, asTerm)) {
                 return false;
             }
@@ -840,14 +835,14 @@ public final class ProofBench {
             return faultKind == NO_FAULT;
         }
 
-        private void begin(int size, Theory names) {
+        private void begin(byte[] text, int size, Theory names) {
             theory = names;
             freeCount = 0;
             boundCount = 0;
             inAxiom = false;
             faultKind = NO_FAULT;
             faultPlace = NONE;
-            tokens.begin(size);
+            tokens.begin(text, size);
         }
 
         /** Some faults are found behind places at which another one may still be found, so the first is looked for. */
@@ -1202,13 +1197,12 @@ public final class ProofBench {
         private final Row noRow = new Row();
         private final Row madeOf = new Row();
         private final Shape shape = new Shape();
-        private Theory theory;
+        private Theory theory = new Theory();
         int written;
         int taken;
         int cause;
 
-        Proof(Theory names) {
-            theory = names;
+        Proof() {
             for (int i = 0; i < steps.length; i++) {
                 steps[i] = new Step();
             }
@@ -1858,10 +1852,9 @@ public final class ProofBench {
         private final long[] good = new long[MOST_THINGS * WORDS];
         private Row row = new Row();
         private Shape shape = new Shape();
-        private Theory theory;
+        private Theory theory = new Theory();
 
-        Judge(Theory names) {
-            theory = names;
+        Judge() {
             for (int i = 0; i < shapes.length; i++) {
                 shapes[i] = new Shape();
             }
