@@ -114,6 +114,8 @@ public final class FormulaTest {
         String full = "and " + Bench.wide(19) + " ";
         row(full + "n", "1 " + rowOfWide(19) + " 10");
         fault(full + "not n", 2, full.length());
+        fault("and and n n and " + Bench.wide(17) + " not n", 2, 16 + Bench.wide(17).length() + 1);
+        fault("and and n p c and " + Bench.wide(17) + " not n", 2, 18 + Bench.wide(17).length() + 1);
         String nearlyFull = "and n and " + Bench.wide(18) + " ";
         row(nearlyFull + "p c", "1 10 1 " + rowOfWide(18) + " 11 20");
         fault(nearlyFull + "not n", 2, nearlyFull.length());

@@ -70,6 +70,10 @@ public final class ModelTest {
         hold("fun f 1;axiom i all x same f f x f x;", 1, 3, 10);
         hold("fun f 1;axiom i all x not same f x x;", 0, 1, 8);
         hold("fun f 1;fun c 0;axiom i same f c c;", 1, 4, 27);
+        hold("rel q 2;axiom s all a all b all d all e some h and q a h imp q h b imp q d e q h h;", 1, 8, 256);
+        hold("rel q 2;axiom s some a some b all d some e all h and q a h q h b;", 1, 5, 91);
+        hold("rel p 1;axiom s " + Bench.repeat("or false ", 10) + "all x p x;", 1, 1, 1);
+        hold("fun f 1;rel a 0;axiom s all x same " + Bench.repeat("f ", 10) + "x x;", 2, 4, 8);
         hold("rel p 1;rel a 0;axiom i imp a all x p x;", 3, 5, 9);
         hold("rel p 1;rel a 0;axiom i or a some x p x;", 3, 7, 15);
     }
@@ -133,6 +137,11 @@ public final class ModelTest {
         holds("rel p 1;", "some x imp p x all x p x", 3, 0xff);
         holds("rel p 1;", "all x some y and imp p x p y not same x y", 2, 0b1001);
         holds("rel p 1;", "some a some b some d and p a and p b and p d and not same a b and not same a d not same b d", 3, 0x80);
+        holds("rel a 0;", Bench.repeat("or false ", 12) + "a", 1, 0b10);
+        holds("rel a 0;", Bench.repeat("or false ", 11) + "not a", 1, 0b01);
+        holds("fun f 1;", "same " + Bench.repeat("f ", 11) + "x f x", 2, 0b1111);
+        // Digits p(0), p(1), f(0), f(1).
+        holds("fun f 1;rel p 1;", "imp p x p " + Bench.repeat("f ", 10) + "x", 2, 0b11110111_11101111);
         holds("rel p 1;", "all a all b all d all e all h imp p a imp p b imp p d imp p e p h", 2, 0b1001);
     }
 

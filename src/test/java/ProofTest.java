@@ -16,6 +16,7 @@ public final class ProofTest {
         whatStepsNeed();
         alikeSteps();
         numbersOfFreeOnes();
+        nothingIsLeftOfFormerProofs();
         bench.finish("ProofTest");
     }
 
@@ -268,6 +269,37 @@ public final class ProofTest {
         bench.due("not of a step behind", x.alike(), -1);
         Bench.read(x, "n");
         bench.due("ahead of it", x.alike(), 0);
+    }
+
+    private static void nothingIsLeftOfFormerProofs() {
+        ProofBench x = bench.with(THEORY);
+        Bench.prove(x, "axiom b;");
+        x.keep();
+        String wide = "assume " + Bench.wide(20) + ";";
+        for (int turn = 0; turn < 3; turn++) {
+            bench.due("prove", Bench.prove(x, wide + "theorem 0;both 1 1;axiom a;both 2 3;both 0 0;"), 5);
+            bench.due("refused", Bench.refused(x), "5 for 5");
+            bench.due("leans", x.step(4, 3), 1);
+        }
+        for (int turn = 0; turn < 3; turn++) {
+            String text = "same c;same c;assume m;same c;same c;same f c;same c;";
+            bench.due("prove", Bench.prove(x, text), 7);
+            bench.due("line", Bench.line(x, 5), "6 21 20 21 20");
+            for (int i = 0; i < 7; i++) {
+                bench.due("axioms", x.step(i, 2), 0);
+                bench.due("theorems", x.step(i, 3), 0);
+                bench.due("assumes", x.step(i, 1), i == 2 ? 1 : 0);
+                bench.due("needs", x.needs(i), 1L << i);
+            }
+        }
+        bench.due("prove", Bench.prove(x, "left 0;axiom a;"), 0);
+        bench.due("about(3)", x.about(3), 0);
+        bench.due("line", x.line(0, 0), -1);
+        bench.due("prove nothing", Bench.prove(x, ""), 0);
+        bench.due("about(3)", x.about(3), 0);
+        bench.due("refused", Bench.refused(x), "-1 for -1");
+        bench.due("prove nothing", Bench.prove(x, ""), 0);
+        bench.due("refused", Bench.refused(x), "-1 for -1");
     }
 
     private static void numbersOfFreeOnes() {

@@ -23,6 +23,7 @@ public final class StepTest {
         tooMuch();
         causesInOrder();
         orderOfWhatIsAssumed();
+        premisesFurtherAhead();
         bench.finish("StepTest");
     }
 
@@ -325,6 +326,26 @@ public final class StepTest {
         // One more is told, but the same one is left out.
         bench.due("prove", Bench.prove(x, chain + "deduce 33 same u u;assume same u u;both 34 35;"), 36);
         bench.due("refused", Bench.refused(x), "36 for 5");
+    }
+
+    /** Other steps come between a premise and the step that takes it; what they left out is left out there alone. */
+    private static void premisesFurtherAhead() {
+        String other = "same g g c c f c;assume and imp n false p g c c;assume n;";
+        comesTo("assume and imp n m p f u;" + other + "left 0;", "3 10 11", "1 3 10 11 13 21 60");
+        comesTo("assume and imp n m p f u;" + other + "right 0;", "13 21 60", "1 3 10 11 13 21 60");
+        comesTo("assume or and n m l;assume n;" + other + "assume and n m;assume l;both 1 5;right 7;both 1 6;left 9;case 0 1 10;",
+                "10", "2 1 10 11 12, 10");
+        comesTo("assume imp and n p f c m;assume and n p f c;" + other + "apply 0 1;", "11",
+                "3 1 10 13 21 20 11, 1 10 13 21 20");
+        comesTo("same g u f c;assume all x some y p f x;same c;general 0 u;", "4 6 22 40 21 20 22 40 21 20", "");
+        comesTo("assume all x some y q x y;same g g u u f u;assume n;special 0 c;", "5 14 20 40", "4 5 14 41 40");
+        comesTo("assume some x some y q x y;assume some y q u y;assume n;both 1 2;right 3;same g c c;open 0 4 u;", "10",
+                "5 5 14 41 40, 10");
+        comesTo("assume same f c g c c;assume q c f c;same c;assume n;replace 0 1 q c g c c;", "14 20 22 20 20",
+                "6 21 20 22 20 20, 14 20 21 20");
+        comesTo("assume n;deduce 0 n;both 0 1;", "1 10 3 10 10", "10");
+        comesTo("assume or n m;assume n;case 0 1 1;both 0 1;", "1 2 10 11 10", "2 10 11, 10");
+        comesTo("assume not n;assume n;apply 0 1;classic 2 n;both 0 2;", "1 3 10 0 0", "3 10 0, 10");
     }
 
     private static String wideRow(int falses) {

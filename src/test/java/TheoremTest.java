@@ -202,6 +202,29 @@ public final class TheoremTest {
         x.drop();
         bench.due("image", x.image(0), 0);
         bench.due("back", x.back(0), 0);
+        // What a theorem leans on comes back, too.
+        x = bench.with(THEORY);
+        Bench.prove(x, "axiom b;");
+        x.keep();
+        Bench.prove(x, "theorem 0;axiom e;both 0 1;");
+        x.keep();
+        x.image(0);
+        x.drop();
+        x.drop();
+        Bench.prove(x, "axiom a;");
+        x.keep();
+        x.keep();
+        bench.due("leans", x.leans(1, 0) * 100 + x.leans(1, 1) * 10 + x.leans(1, 2), 101);
+        x.back(0);
+        bench.due("leans of 0 on axioms", x.leans(0, 0), 2);
+        bench.due("leans of 0 through all", x.leans(0, 2), 2);
+        bench.due("leans of 1 on axioms", x.leans(1, 0), 8);
+        bench.due("leans of 1 on theorems", x.leans(1, 1), 1);
+        bench.due("leans of 1 through all", x.leans(1, 2), 10);
+        Bench.prove(x, "theorem 1;");
+        x.keep();
+        bench.due("leans of 2 through all", x.leans(2, 2), 10);
+        x = bench.with(THEORY);
         // Two boxes have nothing to do with one another.
         Bench.prove(x, "axiom b;");
         x.keep();

@@ -232,6 +232,11 @@ public final class TheoryTest {
         bench.due("its line", Bench.line(x, 0), "4 6 20 40 40");
         bench.due("f is a function still", Bench.read(x, "same f f y y"), 5);
         bench.due("q is an X still", Bench.read(x, "same q q"), 3);
+        Bench.theory(x, "axiom d same u v;");
+        bench.due("a formula has free ones, whatever an axiom had", Bench.read(x, "same u v"), 3);
+        Bench.theory(x, "axiom d all u all v");
+        bench.due("a formula has free ones, whatever was bound", Bench.read(x, "same u v"), 3);
+        bench.due("its pieces", Bench.read(x), "6 60 61");
     }
 
     private static void faultIsOfTheLatestText() {
