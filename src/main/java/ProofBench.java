@@ -896,7 +896,6 @@ public final class ProofBench {
             if (!takeWhole(theory.axiomRow(theory.axioms), false) || !takeSemicolon()) {
                 return false;
             }
-            inAxiom = false;
             theory.addAxiom(name);
             return true;
         }

@@ -330,14 +330,15 @@ public final class StepTest {
 
     /** Other steps come between a premise and the step that takes it; what they left out is left out there alone. */
     private static void premisesFurtherAhead() {
-        String other = "same g g c c f c;assume and imp n false p g c c;assume n;";
+        String other = "same g g c c f c;assume and n p g c c;assume n;";
         comesTo("assume and imp n m p f u;" + other + "left 0;", "3 10 11", "1 3 10 11 13 21 60");
         comesTo("assume and imp n m p f u;" + other + "right 0;", "13 21 60", "1 3 10 11 13 21 60");
-        comesTo("assume or and n m l;assume n;" + other + "assume and n m;assume l;both 1 5;right 7;both 1 6;left 9;case 0 1 10;",
+        comesTo("assume or and n m l;assume n;" + other + "assume and n m;assume l;both 1 5;left 7;both 1 6;left 9;case 0 8 10;",
                 "10", "2 1 10 11 12, 10");
         comesTo("assume imp and n p f c m;assume and n p f c;" + other + "apply 0 1;", "11",
                 "3 1 10 13 21 20 11, 1 10 13 21 20");
-        comesTo("same g u f c;assume all x some y p f x;same c;general 0 u;", "4 6 22 40 21 20 22 40 21 20", "");
+        comesTo("same u;orright 0 all x some y q x u;same g g c c f c;same c;general 1 u;",
+                "4 2 4 5 14 41 42 6 40 40", "");
         comesTo("assume all x some y q x y;same g g u u f u;assume n;special 0 c;", "5 14 20 40", "4 5 14 41 40");
         comesTo("assume some x some y q x y;assume some y q u y;assume n;both 1 2;right 3;same g c c;open 0 4 u;", "10",
                 "5 5 14 41 40, 10");
