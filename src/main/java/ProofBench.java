@@ -623,12 +623,12 @@ public final class ProofBench {
         }
 
         void addSymbol(int sort, long name, int arity) {
-            if (sort == REL && rels < relNames.length) {
+            if (sort == REL && rels >= 0 && rels < relNames.length) {
                 putAt(arities, FIRST_REL + rels, arity);
                 relNames[rels] = name;
                 rels++;
             }
-            if (sort == FUN && funs < funNames.length) {
+            if (sort == FUN && funs >= 0 && funs < funNames.length) {
                 putAt(arities, FIRST_FUN + funs, arity);
                 funNames[funs] = name;
                 funs++;
@@ -637,7 +637,7 @@ public final class ProofBench {
 
         /** Names the axiom whose row was filled. */
         void addAxiom(long name) {
-            if (axioms < axiomNames.length) {
+            if (axioms >= 0 && axioms < axiomNames.length) {
                 axiomNames[axioms] = name;
                 axioms++;
             }
@@ -1053,7 +1053,7 @@ public final class ProofBench {
         private int pieceOfX() {
             for (int nearer = 0; nearer < boundCount; nearer++) {
                 int at = boundCount - 1 - nearer;
-                if (at < boundWords.length && boundWords[at] == tokens.word) {
+                if (at >= 0 && at < boundWords.length && boundWords[at] == tokens.word) {
                     return FIRST_BOUND + nearer;
                 }
             }
