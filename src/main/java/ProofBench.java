@@ -1701,62 +1701,64 @@ public final class ProofBench {
         private final Shape ruleShape = new Shape();
         private final int[] begins = new int[MOST_NESTED];
         private final int[] ends = new int[MOST_NESTED];
-        private int left;
-        private int right;
+        /** By axiom: where the sides of a rule begin; what is no rule has NONE as its right one. */
+        private final int[] lefts = new int[MOST_AXIOMS];
+        private final int[] rights = new int[MOST_AXIOMS];
 
         void clear() {
             term.clear();
         }
 
         int ruleBits(Theory theory) {
+            findRules(theory);
             int bits = 0;
             for (int i = 0; i < theory.axioms; i++) {
-                if (isRule(theory.axiomRow(i), theory)) {
+                if (valueAt(rights, i) != NONE) {
                     bits |= 1 << i;
                 }
             }
             return bits;
         }
 
-        /** Finds where the two sides of a rule begin, too. */
-        private boolean isRule(Row axiom, Theory theory) {
-            int alls = 0;
-            while (alls < axiom.size && axiom.at(alls) == ALL) {
-                alls++;
+        private void findRules(Theory theory) {
+            for (int i = 0; i < theory.axioms; i++) {
+                Row axiom = theory.axiomRow(i);
+                int alls = 0;
+                while (alls < axiom.size && axiom.at(alls) == ALL) {
+                    alls++;
+                }
+                ruleShape.measure(axiom, theory);
+                int left = alls + 1;
+                int right = ruleShape.endAt(left);
+                boolean isRule = axiom.at(alls) == SAME && isFun(axiom.at(left)) && leftHasAll(axiom, left, right);
+                putAt(lefts, i, left);
+                putAt(rights, i, isRule ? right : NONE);
             }
-            left = alls + 1;
-            if (axiom.at(alls) != SAME || !isFun(axiom.at(left))) {
-                return false;
-            }
-            ruleShape.measure(axiom, theory);
-            right = ruleShape.endAt(left);
+        }
+
+        private boolean leftHasAll(Row axiom, int left, int right) {
             for (int i = right; i < axiom.size; i++) {
-                if (isBound(axiom.at(i)) && !leftHas(axiom, axiom.at(i))) {
+                boolean found = !isBound(axiom.at(i));
+                for (int k = left; k < right && !found; k++) {
+                    found = axiom.at(k) == axiom.at(i);
+                }
+                if (!found) {
                     return false;
                 }
             }
             return true;
         }
 
-        private boolean leftHas(Row axiom, int piece) {
-            for (int i = left; i < right; i++) {
-                if (axiom.at(i) == piece) {
-                    return true;
-                }
-            }
-            return false;
-        }
-
         int makeNormal(Theory theory) {
-            int times = 0;
-            while (times <= MOST_TIMES) {
+            findRules(theory);
+            termShape.measure(term, theory);
+            for (int times = 0; times <= MOST_TIMES; times++) {
                 if (!goOn(theory)) {
                     return times;
                 }
-                times++;
                 term.copy(next);
                 termShape.measure(term, theory);
-                if (times > MOST_TIMES || next.over || termShape.isTooDeep()) {
+                if (next.over || termShape.isTooDeep()) {
                     break;
                 }
             }
@@ -1766,12 +1768,11 @@ public final class ProofBench {
 
         /** The term rewritten once comes into next; false if it is normal. */
         private boolean goOn(Theory theory) {
-            termShape.measure(term, theory);
             for (int at = 0; at < term.size; at++) {
-                for (int i = 0; i < theory.axioms; i++) {
-                    Row axiom = theory.axiomRow(i);
-                    if (isFun(term.at(at)) && isRule(axiom, theory) && stands(axiom, at)) {
-                        putRight(axiom, at);
+                for (int i = 0; i < theory.axioms && isFun(term.at(at)); i++) {
+                    int right = valueAt(rights, i);
+                    if (right != NONE && stands(theory.axiomRow(i), valueAt(lefts, i), right, at)) {
+                        putRight(theory.axiomRow(i), right, at);
                         return true;
                     }
                 }
@@ -1779,7 +1780,7 @@ public final class ProofBench {
             return false;
         }
 
-        private boolean stands(Row axiom, int place) {
+        private boolean stands(Row axiom, int left, int right, int place) {
             for (int k = 0; k < MOST_NESTED; k++) {
                 putAt(begins, k, NONE);
             }
@@ -1811,7 +1812,7 @@ public final class ProofBench {
             return behind - at == valueAt(ends, x) - begin && term.isPartAt(at, behind, term, begin);
         }
 
-        private void putRight(Row axiom, int at) {
+        private void putRight(Row axiom, int right, int at) {
             next.clear();
             next.addPart(term, 0, at);
             for (int i = right; i < axiom.size; i++) {
