@@ -786,6 +786,8 @@ public final class ProofBench {
         private int boundCount;
         private Theory theory = new Theory();
         private Row row = new Row();
+        /** How many nots round the token have their false still to come. */
+        private int falsesDue;
         private boolean inAxiom;
         int faultKind = NO_FAULT;
         int faultPlace = NONE;
@@ -805,7 +807,7 @@ public final class ProofBench {
                     return false;
                 }
             }
-            return faultKind == NO_FAULT;
+            return true;
         }
 
         boolean takeProof(byte[] text, int size, Theory names, Proof into) {
@@ -820,7 +822,7 @@ public final class ProofBench {
                 }
                 into.written = i + 1;
             }
-            return faultKind == NO_FAULT;
+            return true;
         }
 
         /** A text that is one formula, or one term. */
@@ -832,7 +834,7 @@ public final class ProofBench {
             if (tokens.kind != Tokens.BEHIND_TEXT) {
                 return refuse(CANNOT_STAND);
             }
-            return faultKind == NO_FAULT;
+            return true;
         }
 
         private void begin(byte[] text, int size, Theory names) {
@@ -845,17 +847,10 @@ public final class ProofBench {
             tokens.begin(text, size);
         }
 
-        /** Some faults are found behind places at which another one may still be found, so the first is looked for. */
-        private void note(int kind, int place) {
-            if (faultKind == NO_FAULT || place < faultPlace || place == faultPlace && kind < faultKind) {
-                faultKind = kind;
-                faultPlace = place;
-            }
-        }
-
-        /** Always false: there is nothing to go on with. */
+        /** Always false: tokens are judged in their order, so the first fault that is found is the one that is told. */
         private boolean refuse(int kind) {
-            note(tokens.kind == Tokens.BAD ? NO_TOKEN : kind, tokens.place);
+            faultKind = tokens.kind == Tokens.BAD ? NO_TOKEN : kind;
+            faultPlace = tokens.place;
             return false;
         }
 
@@ -951,6 +946,9 @@ public final class ProofBench {
                 return refuse(CANNOT_STAND);
             }
             into.freePiece = freePiece();
+            if (into.freePiece == NONE) {
+                return refuse(CANNOT_STAND);
+            }
             tokens.advance();
             return true;
         }
@@ -958,6 +956,7 @@ public final class ProofBench {
         private boolean takeWhole(Row into, boolean asTerm) {
             row = into;
             row.clear();
+            falsesDue = 0;
             return asTerm ? takeTerm(0) : takeFormula(0);
         }
 
@@ -967,7 +966,7 @@ public final class ProofBench {
             }
             int piece = formulaPiece();
             boolean tooMany = isQuantifier(piece) && boundCount >= MOST_NESTED;
-            if (piece == NONE || tooMany || !hasRoom(depth)) {
+            if (piece == NONE || tooMany || !hasRoom(depth, 1)) {
                 return refuse(CANNOT_STAND);
             }
             row.add(piece);
@@ -995,25 +994,22 @@ public final class ProofBench {
             return rel == NONE ? NONE : FIRST_REL + rel;
         }
 
-        private boolean hasRoom(int depth) {
-            return depth <= DEEPEST && row.size < MOST_PIECES;
+        private boolean hasRoom(int depth, int more) {
+            return depth <= DEEPEST && row.size + falsesDue + more <= MOST_PIECES;
         }
 
-        /** The false comes last in the row, but its place in the text is that of the not. */
+        /** The false comes last in the row, but its place in the text is that of the not, so it is counted from there. */
         private boolean takeNot(int depth) {
-            if (!hasRoom(depth + 1) || row.size + 2 > MOST_PIECES) {
+            if (!hasRoom(depth + 1, 2)) {
                 return refuse(CANNOT_STAND);
             }
-            int place = tokens.place;
             row.add(IMP);
             tokens.advance();
+            falsesDue++;
             if (!takeFormula(depth + 1)) {
                 return false;
             }
-            if (row.size >= MOST_PIECES) {
-                note(CANNOT_STAND, place);
-                return false;
-            }
+            falsesDue--;
             row.add(FALSE);
             return true;
         }
@@ -1033,7 +1029,7 @@ public final class ProofBench {
         }
 
         private boolean takeTerm(int depth) {
-            if (tokens.kind != Tokens.NAME || !hasRoom(depth)) {
+            if (tokens.kind != Tokens.NAME || !hasRoom(depth, 1)) {
                 return refuse(CANNOT_STAND);
             }
             int fun = theory.funOf(tokens.word);
@@ -1041,6 +1037,9 @@ public final class ProofBench {
                 return refuse(CANNOT_STAND);
             }
             int piece = fun == NONE ? pieceOfX() : FIRST_FUN + fun;
+            if (piece == NONE) {
+                return refuse(inAxiom ? FREE_IN_AXIOM : CANNOT_STAND);
+            }
             row.add(piece);
             tokens.advance();
             return takeParts(piece, depth + 1);
@@ -1057,21 +1056,18 @@ public final class ProofBench {
                     return FIRST_BOUND + nearer;
                 }
             }
-            return freePiece();
+            return inAxiom ? NONE : freePiece();
         }
 
+        /** NONE for a thirteenth one. */
         private int freePiece() {
-            if (inAxiom) {
-                note(FREE_IN_AXIOM, tokens.place);
-            }
             for (int i = 0; i < freeCount && i < freeWords.length; i++) {
                 if (freeWords[i] == tokens.word) {
                     return FIRST_FREE + i;
                 }
             }
             if (freeCount < 0 || freeCount >= freeWords.length) {
-                note(CANNOT_STAND, tokens.place);
-                return FIRST_FREE;
+                return NONE;
             }
             freeWords[freeCount] = tokens.word;
             freeCount++;

@@ -8,6 +8,7 @@ public final class FormulaTest {
         boundAndFree();
         faults();
         pieces();
+        piecesOfNots();
         depth();
         nested();
         freeOnes();
@@ -106,20 +107,41 @@ public final class FormulaTest {
         fault(Bench.wide(21), 2, behind - 5);
         fault(Bench.wide(21) + " _", 2, behind - 5);
         fault("all x and false " + Bench.wide(20), 2, 16 + Bench.wide(20).length() - 11);
-        // The 41st piece is the false of the not.
-        fault("not " + Bench.wide(20), 2, 0);
-        fault("and n not " + Bench.wide(19), 2, 6);
-        fault("not not " + Bench.wide(19).replaceFirst("false", "p x"), 2, 4);
-        // At a not at the end there is no room for both of its pieces, or none for its false.
         String full = "and " + Bench.wide(19) + " ";
         row(full + "n", "1 " + rowOfWide(19) + " 10");
-        fault(full + "not n", 2, full.length());
-        fault("and and n n and " + Bench.wide(17) + " not n", 2, 16 + Bench.wide(17).length() + 1);
-        fault("and and n p c and " + Bench.wide(17) + " not n", 2, 18 + Bench.wide(17).length() + 1);
         String nearlyFull = "and n and " + Bench.wide(18) + " ";
         row(nearlyFull + "p c", "1 10 1 " + rowOfWide(18) + " 11 20");
-        fault(nearlyFull + "not n", 2, nearlyFull.length());
         fault(nearlyFull + "q c c", 2, nearlyFull.length() + 4);
+    }
+
+    /** A not is two pieces where it stands, whatever stands inside it and behind it. */
+    private static void piecesOfNots() {
+        row("not not " + Bench.wide(18), "3 3 " + rowOfWide(18) + " 0 0");
+        row("and not n not " + Bench.wide(17), "1 3 10 0 3 " + rowOfWide(17) + " 0");
+        row("not and not n " + Bench.wide(17), "3 1 3 10 0 " + rowOfWide(17) + " 0");
+        faultAtLast("not " + Bench.wide(20), "");
+        faultAtLast("not " + Bench.wide(20), " _");
+        faultAtLast("not " + Bench.wide(20), " false");
+        faultAtLast("not " + Bench.wide(20).replaceAll("false$", "and"), " false false");
+        faultAtLast("and n not " + Bench.wide(19), "");
+        faultAtLast("not not " + Bench.wide(19), "");
+        faultAtLast("not and n not " + Bench.wide(18), "");
+        faultAtLast("and not n not " + Bench.wide(18), "");
+        faultAtLast("not and not false not " + Bench.wide(17), "");
+        // A not that comes as the 39th piece is the 40th, too; one that comes as the 40th can't stand.
+        faultAtLast("and " + Bench.wide(19) + " not n", "");
+        faultAtLast("not and " + Bench.wide(18) + " not n", "");
+        faultAtLast("and and n p c and " + Bench.wide(17) + " not", " n");
+        faultAtLast("not and p c and " + Bench.wide(17) + " not", " n");
+        faultAtLast("not and p c and " + Bench.wide(17) + " not", " _");
+        // What stands ahead of the 41st one comes first.
+        fault("not and same _ x " + Bench.wide(20), 1, 13);
+        fault("not and q x rel " + Bench.wide(20), 2, 12);
+    }
+
+    /** The last word of the text is the 41st piece. */
+    private static void faultAtLast(String text, String behind) {
+        fault(text + behind, 2, text.lastIndexOf(' ') + 1);
     }
 
     private static String rowOfWide(int falses) {

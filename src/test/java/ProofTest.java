@@ -131,7 +131,14 @@ public final class ProofTest {
         fault(Bench.repeat("axiom b;", 40) + "b", 2, 320);
         fault(Bench.repeat("axiom b;", 40) + "_", 1, 320);
         fault("assume " + Bench.wide(21) + ";", 2, 7 + Bench.wide(21).length() - 5);
-        fault("deduce 0 not " + Bench.wide(20) + ";", 2, 9);
+        fault("deduce 0 not " + Bench.wide(20) + ";", 2, 13 + Bench.wide(20).length() - 5);
+        fault("assume n;deduce 0 and and n p c and " + Bench.wide(17) + " not n;", 2, 37 + Bench.wide(17).length());
+        // The nots of a formula are not those of the next one.
+        String wideNot = "assume not " + Bench.wide(19) + ";";
+        bench.due("nots", Bench.prove(x, wideNot + wideNot), 2);
+        fault("assume not " + Bench.wide(20) + ";", 2, 11 + Bench.wide(20).length() - 5);
+        bench.due("nots that had a fault", Bench.prove(x, "assume not and n " + Bench.wide(20) + ";"), -1);
+        bench.due("nots behind a fault", Bench.prove(x, wideNot), 1);
         fault("same " + Bench.repeat("f ", 13) + "c;", 2, 5 + 26);
         // In a proof all told ones count together: general and open tell theirs, too.
         String ten = "assume and same a b and same d e and same g h and same i j same k l;";

@@ -166,8 +166,10 @@ public final class TheoryTest {
         fault("axiom a same x _", 5, 13);
         fault("axiom a same x y", 5, 13);
         fault("axiom a same x x;axiom a false;", 5, 13);
-        // The false of a not is a piece too many at a place ahead of the free one; 39 pieces stand behind the not.
-        fault("axiom a not and same x x " + Bench.wide(18) + ";", 2, 8);
+        // The 41st piece comes further on than the free one, also inside a not.
+        fault("axiom a not and same x x " + Bench.wide(18) + ";", 5, 21);
+        fault("axiom a not and " + Bench.wide(18) + " same x x;", 5, 16 + Bench.wide(18).length() + 6);
+        fault("axiom a not and " + Bench.wide(18) + " or same x x;", 2, 16 + Bench.wide(18).length() + 9);
         fault("axiom a and same x x " + Bench.wide(18) + ";", 5, 17);
         sound("axiom a all x all y same x y;axiom b some x same x x;", 2);
     }
@@ -176,7 +178,8 @@ public final class TheoryTest {
         sound("axiom a " + Bench.wide(20) + ";", 1);
         sound("axiom a not " + Bench.wide(19) + ";", 1);
         fault("axiom a " + Bench.wide(21) + ";", 2, 8 + Bench.wide(21).length() - 5);
-        fault("axiom a not " + Bench.wide(20) + ";", 2, 8);
+        fault("axiom a not " + Bench.wide(20) + ";", 2, 12 + Bench.wide(20).length() - 5);
+        fault("axiom a and " + Bench.wide(19) + " not false;", 2, 17 + Bench.wide(19).length());
         fault("axiom a " + Bench.repeat("and false ", 13) + "false;", 2, 8 + 13 * 10 - 6);
     }
 
