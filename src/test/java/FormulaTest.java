@@ -117,7 +117,7 @@ public final class FormulaTest {
     /** A not is two pieces where it stands, whatever stands inside it and behind it. */
     private static void piecesOfNots() {
         row("not not " + Bench.wide(18), "3 3 " + rowOfWide(18) + " 0 0");
-        row("and not n not " + Bench.wide(17), "1 3 10 0 3 " + rowOfWide(17) + " 0");
+        row("and not p c not " + Bench.wide(17), "1 3 11 20 0 3 " + rowOfWide(17) + " 0");
         row("not and not n " + Bench.wide(17), "3 1 3 10 0 " + rowOfWide(17) + " 0");
         faultAtLast("not " + Bench.wide(20), "");
         faultAtLast("not " + Bench.wide(20), " _");

@@ -134,7 +134,7 @@ public final class ProofTest {
         fault("deduce 0 not " + Bench.wide(20) + ";", 2, 13 + Bench.wide(20).length() - 5);
         fault("assume n;deduce 0 and and n p c and " + Bench.wide(17) + " not n;", 2, 37 + Bench.wide(17).length());
         // The nots of a formula are not those of the next one.
-        String wideNot = "assume not " + Bench.wide(19) + ";";
+        String wideNot = "assume not and p c " + Bench.wide(18) + ";";
         bench.due("nots", Bench.prove(x, wideNot + wideNot), 2);
         fault("assume not " + Bench.wide(20) + ";", 2, 11 + Bench.wide(20).length() - 5);
         bench.due("nots that had a fault", Bench.prove(x, "assume not and n " + Bench.wide(20) + ";"), -1);
