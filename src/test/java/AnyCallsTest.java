@@ -10,7 +10,7 @@ public final class AnyCallsTest {
     private static long seed = 20261118;
 
     public static void main(String[] args) {
-        for (int run = 0; run < 300; run++) {
+        for (int run = 0; run < 1000; run++) {
             anyCalls();
         }
         allCallsOfOneObject();
@@ -29,7 +29,8 @@ public final class AnyCallsTest {
 
     private static void anyCalls() {
         ProofBench x = new ProofBench();
-        for (int call = 0; call < 512; call++) {
+        // Each makes thirteen calls at most, what comes behind them fewer than 40: an object is used for 512 at most.
+        for (int turn = 0; turn < 36; turn++) {
             anyCall(x);
         }
         sumsAreRight(x);
@@ -69,7 +70,7 @@ public final class AnyCallsTest {
 
     private static String anyText() {
         StringBuilder text = new StringBuilder();
-        for (int i = next(20); i >= 0; i--) {
+        for (int i = next(12); i > 0; i--) {
             text.append(WORDS[next(WORDS.length)]).append(next(5) == 0 ? "" : " ");
         }
         return text.toString();
@@ -148,7 +149,7 @@ public final class AnyCallsTest {
 
     private static void allCallsOfOneObject() {
         ProofBench x = bench.with("rel p 1;rel q 1;axiom a some x p x;axiom b all x imp p x q x;");
-        for (int i = 0; i < 100; i++) {
+        for (int i = 0; i < 30; i++) {
             bench.due("prove " + i, Bench.prove(x, "assume p u;axiom b;special 1 u;apply 2 0;exist 3 u some x q x;axiom a;open 5 4 u;"), 7);
             bench.due("assumes", x.step(6, 1), 0);
             bench.due("line", Bench.line(x, 6), "5 11 40");
