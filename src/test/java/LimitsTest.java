@@ -225,7 +225,8 @@ public final class LimitsTest {
         theory("axiom a all x same x x;fun x 0;axiom b all y same x y;", 2);
         theoryFault("axiom a all x same x x;fun x 0;axiom b some x false;", 2, 44);
         theoryFault("axiom a all x same x x;fun x 1;axiom b all y same x;", 2, 51);
-        // An axiom's name is an X, a relation's may be an axiom's, too.
+        // An axiom's name is an X, a relation's may be an axiom's, too, whichever is told first.
+        theory("axiom a false;rel a 0;axiom b false;fun b 1;fun d 0;axiom d a;", 3);
         ProofBench x = bench.with("rel p 1;axiom p all x p x;axiom x all y all x false;");
         bench.due("prove", Bench.prove(x, "axiom p;axiom x;special 0 x;same x;general 3 x;"), 5);
         bench.due("line 2", Bench.line(x, 2), "10 60");

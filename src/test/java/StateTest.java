@@ -122,6 +122,15 @@ public final class StateTest {
         bench.due("the same theory", Bench.theory(x, THEORY), 2);
         dueAs("the same theory", x, bench.with(THEORY));
         boxes("the same theory", x, -1, -1, -1);
+        // Each of the boxes is empty then.
+        x = full();
+        for (int box = 0; box < 3; box++) {
+            bench.due("image(" + box + ")", x.image(box), 2);
+        }
+        bench.due("theory with a fault", Bench.theory(x, "_"), -1);
+        boxes("a theory with a fault", x, 2, 2, 2);
+        bench.due("theory", Bench.theory(x, ""), 0);
+        boxes("a theory", x, -1, -1, -1);
     }
 
     private static void theoryWithFault() {

@@ -113,5 +113,20 @@ public final class TableTest {
         bench.due("letters", x.letters(), 13);
         bench.due("so in all, but too many letters", x.table(), -2);
         bench.due("so in all, but too many letters", x.row(), -2);
+        // As many as 40 pieces can have.
+        String[] most = {"a", "b", "d", "e", "h", "p c", "p i", "p j", "p k", "p l", "p m", "p n", "p o", "p q", "p r"};
+        bench.due("read", Bench.read(x, ors(most, 0, most.length)), 39);
+        bench.due("letters", x.letters(), 15);
+        bench.due("table", x.table(), -2);
+        bench.due("row", x.row(), -2);
+        bench.due("letters still", x.letters(), 15);
+    }
+
+    private static String ors(String[] parts, int begin, int behind) {
+        if (behind - begin == 1) {
+            return parts[begin];
+        }
+        int middle = (begin + behind) / 2;
+        return "or " + ors(parts, begin, middle) + " " + ors(parts, middle, behind);
     }
 }
