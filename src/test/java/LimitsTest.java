@@ -32,6 +32,7 @@ public final class LimitsTest {
         assumedByOneRule();
         assumedByTwoPremises();
         assumedByThreePremises();
+        causesAheadOfTooMuch();
         replacedInAFullRow();
         modelsThatAreGoneThrough();
         rewrittenRows();
@@ -679,6 +680,42 @@ public final class LimitsTest {
         assumes("or p v p w", "assume p v;exist 34 v some x p x;assume p w;exist 36 w some x p x;case 33 37 35;", 14);
         assumes("or p v p w", "assume p v;both 34 0;right 35;case 33 36 36;", 13);
         assumes("or p v p v", "assume p v;case 33 34 34;", 12);
+    }
+
+    /** The steps would assume 13, or have 41 pieces, or be too deep, but another cause is less. */
+    private static void causesAheadOfTooMuch() {
+        cause("imp n p u", "assume not n;both 34 99;", 1);
+        cause("imp n p u", "assume not n;both 35 33;", 1);
+        cause("imp n p u", "assume not n;apply 33 34;", 2);
+        cause("or n p c", "assume p v;assume p w;case 33 34 35;", 2);
+        cause("and n p c", "assume not n;open 33 34 v;", 2);
+        cause("imp n p u", "assume not n;replace 33 34 not n;", 2);
+        cause("some x p x", "assume p w;assume not n;both 34 35;open 33 36 w;", 3);
+        cause("some x q x w", "assume not n;open 33 34 w;", 3);
+        cause("same g u c", "assume not n;replace 33 34 n;", 4);
+        cause("same g u c", "assume not n;replace 33 34 not n;", 5);
+        String wide = "h " + flat(19) + " c";
+        refused("assume n;special 0 " + wide + ";", 2);
+        refused("assume some x q x x;special 0 " + wide + ";", 2);
+        refused("assume all x q x x;special 1 " + wide + ";", 1);
+        refused("assume all x q x x;special 0 " + wide + ";", 5);
+        refused("assume q c c;exist 0 " + wide + " some x q x x;", 4);
+        refused("assume q c c;exist 1 " + wide + " some x q x x;", 1);
+        refused("assume and p u " + Bench.wide(19) + ";general 1 u;", 1);
+        refused("assume and p u " + Bench.wide(19) + ";assume n;deduce 0 and p u " + Bench.wide(19) + ";", 5);
+        refused("assume and p u " + Bench.wide(19) + ";general 0 u;", 3);
+        refused("assume and p u " + Bench.wide(19) + ";general 0 v;", 5);
+        refused("assume " + Bench.repeat("or n ", 12) + "n;both 0 1;", 1);
+        refused("assume some a some b some d some e some f p u;general 0 u;", 3);
+        refused("assume some a some b some d some e some f p u;general 0 v;", 5);
+    }
+
+    private static void cause(String last, String steps, int cause) {
+        ProofBench x = bench.with(THEORY);
+        String text = twelve(last) + steps;
+        int due = text.split(";").length - 1;
+        bench.due("prove " + text, Bench.prove(x, text), due);
+        bench.due("refused of " + steps, Bench.refused(x), due + " for " + cause);
     }
 
     /** 40 pieces, each of them gone past by itself. */
