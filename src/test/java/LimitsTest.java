@@ -33,6 +33,7 @@ public final class LimitsTest {
         assumedByTwoPremises();
         assumedByThreePremises();
         causesAheadOfTooMuch();
+        lastOfEachSort();
         replacedInAFullRow();
         modelsThatAreGoneThrough();
         rewrittenRows();
@@ -211,6 +212,19 @@ public final class LimitsTest {
         bench.due("funs", x.about(1), 0);
         bench.due("axioms", x.about(2), 1);
         bench.due("models", x.models(3), 2);
+        // Nor by another line than the one that told it.
+        for (int turn = 0; turn < 3; turn++) {
+            bench.due("theory", Bench.theory(x, all), 8);
+            bench.due("theory", Bench.theory(x, turn == 2 ? "" : all), turn == 2 ? 0 : 8);
+            bench.due("theory", Bench.theory(x, "rel a 0;rel b 1;fun h 0;axiom a a;"), 1);
+            bench.due("a relation that has gone", Bench.read(x, turn == 0 ? "d h h" : turn == 1 ? "e" : "g h h"), -1);
+            bench.due("its fault", Bench.fault(x), "2 at 0");
+            bench.due("functions that have gone", Bench.read(x, turn == 0 ? "same i j" : turn == 1 ? "same j k" : "same k i"), 3);
+            bench.due("their pieces", Bench.read(x), "6 60 61");
+            bench.due("an axiom that has gone", Bench.prove(x, turn == 0 ? "axiom b;" : turn == 1 ? "axiom c;" : "axiom h;"), -1);
+            bench.due("its fault", Bench.fault(x), "6 at 6");
+            bench.due("what is there", Bench.prove(x, "axiom a;assume b h;"), 2);
+        }
         // A theory with a fault leaves nothing behind for the next one.
         bench.due("fault", Bench.theory(x, "rel a 0;fun b 0;axiom a false;_"), -1);
         bench.due("theory", Bench.theory(x, "rel b 0;fun a 0;axiom a not false;"), 1);
@@ -589,6 +603,11 @@ public final class LimitsTest {
         }
         pieces("assume " + eleven + ";general 0 u;", 24);
         refused("assume " + twelve + ";general 0 u;", 5);
+        String left = Bench.repeat("or ", 12) + "n" + Bench.repeat(" n", 12);
+        refused("assume " + left + ";general 0 u;", 5);
+        refused("assume " + left + ";deduce 0 n;", 5);
+        refused("assume " + left + ";orleft 0 n;", 5);
+        refused("assume all x q x c;special 0 " + Bench.repeat("g ", 12) + "c;", 5);
         pieces("same " + Bench.repeat("g ", 11) + "c;", 25);
         refused("same " + Bench.repeat("g ", 12) + "c;", 5);
         pieces("assume all x p x;special 0 " + Bench.repeat("g ", 11) + "c;", 13);
@@ -600,6 +619,9 @@ public final class LimitsTest {
         pieces("assume " + five.substring(6) + ";general 0 u;", 6);
         refused("assume " + five + ";general 0 u;", 5);
         refused("assume and n " + five + ";general 0 u;", 5);
+        refused("assume and " + five + " n;general 0 u;", 5);
+        refused("assume and " + five + " or " + Bench.wide(4) + " p c;general 0 u;", 5);
+        refused("assume and " + five.substring(0, 26) + "n " + Bench.wide(3) + ";general 0 u;general 1 u;", 5);
         pieces("assume " + five + ";orleft 0 " + five + ";", 13);
         pieces("assume " + five + ";deduce 0 n;", 8);
         pieces("assume " + five + ";both 0 0;", 13);
@@ -716,6 +738,41 @@ public final class LimitsTest {
         int due = text.split(";").length - 1;
         bench.due("prove " + text, Bench.prove(x, text), due);
         bench.due("refused of " + steps, Bench.refused(x), due + " for " + cause);
+    }
+
+    /** The last step leans on the last axiom and the last theorem, and assumes as many as can be. */
+    private static void lastOfEachSort() {
+        ProofBench x = bench.with(THEORY + "axiom b n;axiom d n;axiom e n;axiom f n;axiom k n;axiom l n;axiom h all x q x x;");
+        Bench.prove(x, "assume n;deduce 0 n;");
+        for (int i = 0; i < 12; i++) {
+            bench.due("keep", x.keep(), i);
+        }
+        String text = twelve("imp n p u") + "axiom h;theorem 11;both 34 35;both 33 36;right 37;general 38 z;";
+        bench.due("prove " + text, Bench.prove(x, text), 40);
+        bench.due("pieces", x.step(39, 0), 9);
+        bench.due("assumes", x.step(39, 1), 12);
+        bench.due("axioms", x.step(39, 2), 1 << 7);
+        bench.due("theorems", x.step(39, 3), 1 << 11);
+        bench.due("line", Bench.line(x, 39), "4 1 4 12 40 40 3 10 10");
+        for (int n = 0; n < 12; n++) {
+            String row = Bench.line(x, n);
+            bench.due("pieces of what it assumes", row.split(" ").length, x.step(n, 0));
+            for (int i = 0; i < x.step(n, 0); i++) {
+                bench.due("assumed(39, " + n + ", " + i + ")", x.assumed(39, n, i), x.line(n, i));
+            }
+            bench.due("assumed(39, " + n + ", ..) behind it", x.assumed(39, n, x.step(n, 0)), -1);
+        }
+        bench.due("needs", x.needs(39), (1L << 40) - 1);
+        Bench.read(x, "all e and all e q e e imp n n");
+        bench.due("alike the last step", x.alike(), 39);
+        Bench.read(x, "imp n p d");
+        bench.due("alike the last one of twelve", x.alike(), 11);
+        bench.due("drop", x.drop(), 11);
+        Bench.prove(x, "theorem 10;axiom h;both 0 1;");
+        bench.due("keep", x.keep(), 11);
+        bench.due("leans on axioms", x.leans(11, 0), 1 << 7);
+        bench.due("leans on theorems", x.leans(11, 1), 1 << 10);
+        bench.due("leans on axioms through all", x.leans(11, 2), 1 << 7);
     }
 
     /** 40 pieces, each of them gone past by itself. */

@@ -12,6 +12,7 @@ public final class ModelTest {
         counters();
         spent();
         wildArguments();
+        thingsByTurns();
         theoriesComeAndGo();
         bench.finish("ModelTest");
     }
@@ -171,6 +172,17 @@ public final class ModelTest {
         // Which are free may be others than the first four numbers.
         Bench.read(x, "all a all b p a");
         bench.due("none free", x.holds(2, 3), 1);
+        // As many as the formula has, whatever the one before it had.
+        String[] formulas = {"p a", "imp p a p b", "imp and p a p b p d", "imp and p a and p b p d p e"};
+        for (int turn = 0; turn < 16; turn++) {
+            int free = turn % 4 == 0 ? 4 : turn % 2 == 0 ? 3 : 1 + turn / 2 % 2;
+            Bench.read(x, formulas[free - 1]);
+            for (int model = 0; model < 4; model++) {
+                boolean so = model == 3 || model == 0 && free > 1;
+                bench.due("holds(2, " + model + ") of " + free + " free ones", x.holds(2, model), so ? 1 : 0);
+            }
+            bench.due("counter(2) of " + free + " free ones", x.counter(2), free > 1 ? 1 : 0);
+        }
     }
 
     private static void counters() {
@@ -255,6 +267,39 @@ public final class ModelTest {
         bench.due("holds(2, 4)", x.holds(2, 4), -1);
         bench.due("holds(2, MAX)", x.holds(2, Integer.MAX_VALUE), -1);
         bench.due("holds(2, MIN)", x.holds(2, Integer.MIN_VALUE), -1);
+    }
+
+    /** Models of three, one and two things in turn: none has to do with the one that was looked at before. */
+    private static void thingsByTurns() {
+        ProofBench x = bench.with("fun c 0;fun f 1;rel p 1;axiom a p f c;");
+        Bench.read(x, "p f c");
+        for (int turn = 0; turn < 40; turn++) {
+            for (int n : new int[] {3, 1, 2}) {
+                int models = n == 3 ? 648 : n == 1 ? 2 : 32;
+                int model = n == 3 ? 647 - 16 * turn : turn % models;
+                bench.due("holds(" + n + ", " + model + ") in turn " + turn, x.holds(n, model), isSoThere(n, model) ? 1 : 0);
+            }
+        }
+        bench.due("hold(3)", x.hold(3), 324);
+        bench.due("hold(1)", x.hold(1), 1);
+        bench.due("hold(2)", x.hold(2), 16);
+        Bench.read(x, "not p f c");
+        // The first in which p f c is so: p of the last thing alone, c is the first, f of it the last.
+        bench.due("counter(3)", x.counter(3), 81 + 2 * 9);
+        bench.due("counter(1)", x.counter(1), 1);
+        bench.due("counter(2)", x.counter(2), 8 + 2);
+    }
+
+    /** Digits of p, of c, of f; whether p f c is so. */
+    private static boolean isSoThere(int n, int model) {
+        int[] digits = new int[2 * n + 1];
+        int rest = model;
+        for (int i = digits.length - 1; i >= 0; i--) {
+            int base = i < n ? 2 : n;
+            digits[i] = rest % base;
+            rest /= base;
+        }
+        return digits[digits[n + 1 + digits[n]]] == 1;
     }
 
     private static void theoriesComeAndGo() {

@@ -122,6 +122,18 @@ public final class RewriteTest {
         rewritten(nest, "f g u f v v", 0, "20 21 60 20 61 61");
         // The inner one of two all with the same X binds it.
         rewritten("fun f 2;axiom a all x all x same f x x x;", "f u u", 1, "60");
+        // Each X of a rule has a term anew at each place.
+        String five = "all a all b all d all e all h ";
+        for (String word : five.replace("all ", "").trim().split(" ")) {
+            String rule = "fun f 2;fun g 1;fun c 0;axiom k " + five + "same g " + word + " c;";
+            rewritten(rule, "f g u g v", 2, "20 22 22");
+            rewritten(rule, "f g f u c g v", 2, "20 22 22");
+            rule = "fun f 2;fun g 1;fun c 0;axiom k " + five + "same f " + word + " " + word + " " + word + ";";
+            rewritten(rule, "f f u v f g v g v", 1, "20 20 60 61 21 61");
+            rewritten(rule, "f f u u u", 2, "60");
+        }
+        rewritten("fun f 2;fun i 2;axiom k " + five + "same f a f b f d f e h i h i e i d i b a;",
+                "f u f v f w f y i z z", 1, "21 21 64 64 21 63 21 62 21 61 60");
         // A free X of the term is no X of the rule.
         rewritten("fun f 1;fun c 0;axiom a same f c c;", "f x", 0, "20 60");
     }

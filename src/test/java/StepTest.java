@@ -213,6 +213,16 @@ public final class StepTest {
         refused("axiom t;assume q c c;replace 0 1 q c u;", 4);
         refused("axiom t;assume q c c;replace 0 1 q f f c c;", 4);
         refused("axiom t;assume n;replace 0 1 m;", 4);
+        // Terms that are another one only in the last piece, or in the first.
+        comesTo("assume same c f u;assume p c;replace 0 1 p f u;", "13 21 60", "6 20 21 60, 13 20");
+        refused("assume same c f u;assume p c;replace 0 1 p f v;", 4);
+        refused("assume same c u;assume p c;replace 0 1 p v;", 4);
+        refused("assume same c f u;assume p c;replace 0 1 p u;", 4);
+        refused("assume same f u c;assume p f v;replace 0 1 p c;", 4);
+        refused("assume same u c;assume p v;replace 0 1 p c;", 4);
+        refused("assume same g u v c;assume p g u u;replace 0 1 p c;", 4);
+        refused("assume same c g u v;assume q c u;replace 0 1 q g u u u;", 4);
+        refused("assume same c g u v;assume q c u;replace 0 1 q g v v u;", 4);
         refused("axiom t;assume p c;replace 0 1 and p c n;", 4);
         refused("axiom t;assume and p c n;replace 0 1 p c;", 4);
         refused("axiom a;assume n;replace 0 1 n;", 2);

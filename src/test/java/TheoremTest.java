@@ -7,6 +7,7 @@ public final class TheoremTest {
     public static void main(String[] args) {
         kept();
         notKept();
+        boundOnesAreNotFree();
         twelveAtMost();
         leans();
         leansThroughOthers();
@@ -60,6 +61,43 @@ public final class TheoremTest {
         bench.due("fault", Bench.prove(x, "assume"), -1);
         bench.due("keep of the proof that stays", x.keep(), 1);
         bench.due("theorem", Bench.theorem(x, 1), "3 10 10");
+    }
+
+    /** No bound one is a free one, however many pieces there are and wherever it stands; each free one is, by any number. */
+    private static void boundOnesAreNotFree() {
+        String five = "all a all b all d all e all h and ";
+        for (int falses = 1; falses <= 16; falses++) {
+            closedIsKept(five + "p a " + Bench.wide(falses), 2 * falses + 7);
+            closedIsKept(five + Bench.wide(falses) + " p h", 2 * falses + 7);
+            closedIsKept(five + "q a b " + Bench.wide(falses), 2 * falses + 8);
+            closedIsKept(five + Bench.wide(falses) + " q h a", 2 * falses + 8);
+        }
+        ProofBench x = new ProofBench();
+        String[] names = {"b", "d", "e", "f", "g", "h", "i", "j", "k", "l", "m", "o"};
+        StringBuilder text = new StringBuilder();
+        for (int v = 0; v < names.length; v++) {
+            text.append("same ").append(names[v]).append(';');
+            bench.due("prove", Bench.prove(x, text.toString()), v + 1);
+            bench.due("piece of the free one " + v, x.line(v, 1), 60 + v);
+            bench.due("keep of the free one " + v, x.keep(), -1);
+            bench.due("prove", Bench.prove(x, text + "general " + v + " " + names[v] + ";"), v + 2);
+            bench.due("keep of the bound one " + v, x.keep(), v);
+        }
+        x = bench.with("rel q 2;fun c 0;axiom k q c c;");
+        for (String free : new String[] {"q c u", "q u c", "all x and q c u q x x", "and q c u " + Bench.wide(16)}) {
+            bench.due("prove", Bench.prove(x, "axiom k;orleft 0 " + free + ";"), 2);
+            bench.due("keep of a free one in " + free, x.keep(), -1);
+            bench.due("prove", Bench.prove(x, "axiom k;orleft 0 " + free.replace("u", "c") + ";"), 2);
+            bench.due("keep without one", x.keep(), x.about(4) - 1);
+        }
+    }
+
+    private static void closedIsKept(String formula, int pieces) {
+        ProofBench x = bench.with("rel n 0;rel p 1;rel q 2;axiom k " + formula + ";");
+        bench.due("prove by " + formula, Bench.prove(x, "axiom k;"), 1);
+        bench.due("pieces of " + formula, x.step(0, 0), pieces);
+        bench.due("keep of " + formula, x.keep(), 0);
+        bench.due("its last piece", x.theorem(0, pieces - 1), x.line(0, pieces - 1));
     }
 
     private static void twelveAtMost() {
@@ -224,6 +262,7 @@ public final class TheoremTest {
         Bench.prove(x, "theorem 1;");
         x.keep();
         bench.due("leans of 2 through all", x.leans(2, 2), 10);
+        leansOfSeveralComeBack();
         x = bench.with(THEORY);
         // Two boxes have nothing to do with one another.
         Bench.prove(x, "axiom b;");
@@ -235,6 +274,28 @@ public final class TheoremTest {
         bench.due("back", x.back(2), 1);
         bench.due("theorem 0", Bench.theorem(x, 0), "4 11 40");
         bench.due("back", x.back(1), 0);
+    }
+
+    private static void leansOfSeveralComeBack() {
+        ProofBench x = bench.with(THEORY);
+        String[] proofs = {"axiom e;", "axiom a;", "theorem 1;", "theorem 0;theorem 1;both 0 1;", "theorem 3;left 0;axiom b;both 1 2;"};
+        long[] leans = {8 * 10000 + 8, 10000 + 1, 2 * 100 + 1, 3 * 100 + 9, 2 * 10000 + 8 * 100 + 11};
+        for (String proof : proofs) {
+            Bench.prove(x, proof);
+            x.keep();
+        }
+        bench.due("image", x.image(1), 5);
+        for (int i = 0; i < 5; i++) {
+            x.drop();
+        }
+        Bench.prove(x, "assume n;deduce 0 n;");
+        for (int i = 0; i < 5; i++) {
+            bench.due("keep", x.keep(), i);
+        }
+        bench.due("back", x.back(1), 5);
+        for (int i = 0; i < 5; i++) {
+            bench.due("leans of " + i + " again", x.leans(i, 0) * 10000 + x.leans(i, 1) * 100 + x.leans(i, 2), leans[i]);
+        }
     }
 
     private static void boxesThatAreNone() {
